@@ -179,6 +179,9 @@ final class BoardTest {
         Checks.due("4 wide as at first", x.count(0), 4);
         Checks.due("4 no laws", x.count(2), 0);
         Checks.due("4 no pits", x.count(3), 0);
+        Checks.due("4 nothing of the faulty text", x.count(5), 0);
+        Checks.due("4 the empty text again", x.board(), 0);
+        Checks.due("4 nothing of the first text", x.count(2) + x.count(3) + x.man(0, 0), 0);
         Checks.due("4 man 0 as at first", x.man(0, 0), 0);
         Checks.due("4 home 1 as at first", x.man(1, 1), 0);
         Checks.due("4 refusals as at first", x.man(0, 3), 1);

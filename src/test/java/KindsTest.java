@@ -69,6 +69,7 @@ final class KindsTest {
         x.lot(43);
         Checks.due("25 told", x.tell(6), 0);
         Checks.due("25 told by B", x.tell(2), 0);
+        Checks.due("25 refused again", x.refuse(6), 0);
         Checks.due("25 B wins", x.tell(0), 2);
         Checks.due("25 over", x.keep(1), 3);
         Checks.due("26 back", x.back(0), 0);

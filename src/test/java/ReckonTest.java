@@ -98,6 +98,12 @@ final class ReckonTest {
         OthersMan second = Checks.told(twoPits + "law 1 0;uses 0 1;refuses 1 2;");
         Checks.due("15 refused once, told the other", second.refuse(2), 1);
         Checks.due("15 not refused twice", second.value(1), 1);
+        String threeWays = "board 3 2;law 1 0 2 6;pit 0 1;man 1 1 1;man 0 0 0;refuses 1 2;";
+        Checks.due("15 one pit of three ways", Checks.told(threeWays).value(1), 0);
+        Checks.due("15 two pits, not both refused", Checks.told(threeWays + "pit 2 1;").value(1), 1);
+        OthersMan justNow = Checks.told(threeWays);
+        Checks.due("15 refused just now", justNow.refuse(2), 1);
+        Checks.due("15 the pit can't be", justNow.value(1), 1);
     }
 
     /** Behind the 99th step a walk is over, so nobody wins beyond it. */
@@ -137,6 +143,10 @@ final class ReckonTest {
         Checks.due("16 over", won.best(3), -9);
         Checks.due("16 bad ahead", won.best(0), -1);
         Checks.due("16 a pass", new OthersMan().best(5), -9);
+        OthersMan barred = Checks.told("law 1 0 6;");
+        Checks.due("16 the first", barred.best(2), 0);
+        Checks.due("16 the first refused", barred.refuse(0), 0);
+        Checks.due("16 not the barred one, as good as it is", barred.best(2), 6);
         // Both pits would be refused; what is told instead decides.
         OthersMan first = Checks.told("law 1 0 2 6;man 1 1 1;pit 1 0;pit 2 1;home 1 0 3;");
         Checks.due("16 first of several", first.best(1), 0);
@@ -185,6 +195,10 @@ final class ReckonTest {
         Checks.due("18 over", over.worth(1, 4), 0);
         OthersMan most = Checks.told("board 3 2;law 1 2 6;pit 0 1;pit 2 1;man 1 1 1;man 0 0 0;refuses 1 2;");
         Checks.due("18 two at most", most.worth(1, 4), 0);
+        // By two bells A tells man 1 three times: up is a pit each time, and a third refusal would save him.
+        OthersMan third = Checks.told("board 4 2;law 1 0 6;man 1 3 1;pit 3 0;pit 2 0;pit 1 0;bell 2 1;bell 1 1;refuses 1 2;");
+        Checks.due("18 two are too few", third.value(3), 1);
+        Checks.due("18 a third is none", third.worth(1, 3), 0);
         OthersMan a = Checks.told("board 3 2;law 1 2 6;pit 0 0;man 0 1 0;home 0 1 1;home 1 0 0;refuses 0 0;");
         a.tell(6);
         Checks.due("18 A's is more", a.worth(0, 1), 1);
@@ -211,6 +225,10 @@ final class ReckonTest {
         Checks.due("19 no laws", new OthersMan().bag(0, 0, 0), -1000000);
         Checks.due("19 laws stay", x.man(1, 2), 0);
         Checks.due("19 value stays", x.value(1), 1);
+        OthersMan asked = Checks.told("pit 1 1;pit 2 3;bell 2 1;wall 0 2;law 1 0 2 4 6;law 1 1 3 5 7;uses 1 1;refuses 0 2;");
+        Checks.due("19 nobody as it is", asked.value(5), 0);
+        Checks.due("19 reckoned anew by other laws", asked.bag(1, 0, 4), -1);
+        Checks.due("19 and anew as it is", asked.value(5), 0);
         OthersMan barred = Checks.told("board 3 2;law 1 2 6;law 1 0 6;pit 0 1;man 1 1 1;man 0 2 0;refuses 1 2;home 1 2 0;");
         Checks.due("19 refused", barred.refuse(6), 1);
         Checks.due("19 what may not be told, too", barred.bag(0, 1, 1), 0);
@@ -230,6 +248,15 @@ final class ReckonTest {
         Checks.due("20 A wins by law 0 of man 1", later.bag(0, 0, 1), 1);
         Checks.due("20 nobody by law 1", later.bag(0, 1, 1), 0);
         Checks.due("20 10 i and j", later.fairest(1), 1);
+        OthersMan more = Checks.told("law 1 0 4;law 1 2;home 0 1 1;man 0 0 1;");
+        Checks.due("20 A's step", more.tell(0), 0);
+        Checks.due("20 nobody", more.bag(0, 0, 1), 0);
+        Checks.due("20 A wins by its other law", more.bag(1, 0, 1), 1);
+        Checks.due("20 A gains by that", more.fairest(1), -9);
+        OthersMan less = Checks.told("law 1 0;law 1 6;home 1 2 3;");
+        Checks.due("20 nobody, too", less.bag(0, 0, 1), 0);
+        Checks.due("20 B wins by its other law", less.bag(0, 1, 1), -1);
+        Checks.due("20 B gains by that", less.fairest(1), -9);
         OthersMan won = Checks.told("law 1 6;home 1 2 3;");
         won.tell(6);
         Checks.due("20 over", won.fairest(3), -9);
@@ -249,6 +276,11 @@ final class ReckonTest {
             + "refuses 0 0;refuses 1 0;");
         Checks.due("21 homes change, too", homes.even(1), 0);
         Checks.due("21 nothing changed", homes.man(0, 1), 0);
+        OthersMan refusals = Checks.told("board 3 2;law 1 2 6;pit 0 0;pit 0 1;man 0 1 0;man 1 1 1;refuses 0 0;refuses 1 1;");
+        Checks.due("21 refused", refusals.value(1), 0);
+        Checks.due("21 refusals change, too", refusals.even(1), 0);
+        OthersMan same = Checks.told("board 3 2;law 1 2 6;pit 0 0;pit 0 1;man 0 1 0;man 1 1 1;");
+        Checks.due("21 both may refuse", same.even(1), 1);
         Checks.due("21 empty board", new OthersMan().even(4), 1);
         OthersMan won = Checks.told("law 1 6;home 1 2 3;");
         won.tell(6);
@@ -256,20 +288,20 @@ final class ReckonTest {
     }
 
     private static void rounds() {
-        // A tells man 1 the first step: up by an odd draw, which is a pit; left by an even one, home.
-        OthersMan x = Checks.told("law 1 0 6;pit 3 2;home 1 2 3;");
+        // A tells man 1 one step: left is home, up and the one between are pits.
+        OthersMan x = Checks.told("law 1 0 6 7;pit 3 2;pit 2 2;home 1 2 3;");
         int lot = 1;
         int more = 0;
         for (int i = 0; i < 50; i++) {
             lot = lot * 1103515245 + 12345;
-            more += (lot >>> 16) % 2 == 0 ? 1 : -1;
+            more += (lot >>> 16) % 3 == 1 ? -1 : 1;
         }
         Checks.due("22 fifty", x.rounds(50), more);
         Checks.due("22 the lot went on", x.lot(1), lot);
         Checks.due("22 none", x.rounds(0), -1000000);
         Checks.due("22 below", x.rounds(-1), -1000000);
         Checks.due("22 a hundred", x.rounds(100), -1000000);
-        Checks.due("22 one", x.rounds(1), (1103515245 + 12345 >>> 16) % 2 == 0 ? 1 : -1);
+        Checks.due("22 one", x.rounds(1), (1103515245 + 12345 >>> 16) % 3 == 1 ? -1 : 1);
         x.tell(6);
         x.lot(1);
         Checks.due("22 from the position at first", x.rounds(50), more);
