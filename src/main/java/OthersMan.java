@@ -697,7 +697,7 @@ public final class OthersMan {
         }
 
         /** The value within n steps, if the teller may not tell what is barred; it passes if nothing else is left. */
-        int mostFrom(int key, int barred, int n) {
+        private int mostFrom(int key, int barred, int n) {
             if (n < 1 || n > MOST_AHEAD) return 0;
             int m = 1 - tellerIn(key);
             int may = withoutBit(plan.mayBits(at(laws, m), cellIn(key, m), cellIn(key, 1 - m)), barred);
@@ -714,7 +714,7 @@ public final class OthersMan {
         }
 
         /** The value if a direction is told, and refused if it may be and that is better for the man's owner. */
-        int afterTold(int key, int d, boolean refusable, int n) {
+        private int afterTold(int key, int d, boolean refusable, int n) {
             int done = afterDone(key, d, n);
             int wants = wants(key);
             if (!refusable || done == -wants) return done;

@@ -22,6 +22,9 @@ final class LanguageTest {
         Checks.due("classes inside are private, static", count(code, "\\bclass\\b") - 1, count(code, "private static final class"));
         Checks.due("twelve classes at most", count(code, "\\bclass\\b") <= 12 ? 0 : 1, 0);
         Checks.due("public members", count(code, "(?m)^    public "), 2 + 1 + 28 - 1);
+        for (String recursive : List.of("valueIn", "mostFrom", "afterTold", "afterRefused", "afterDone")) {
+            Checks.due("private, as it is part of a recursion: " + recursive, count(code, "private int " + recursive + "\\("), 1);
+        }
         namesOfMethods(code);
         lengthsOfMethods(code);
         Checks.end();

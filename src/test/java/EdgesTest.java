@@ -1,0 +1,14 @@
+/** Promises 1 to 28: each sentence of the document that names a boundary case, by its words. */
+final class EdgesTest {
+    private EdgesTest() { }
+
+    public static void main(String[] args) {
+        TextEdges.run();
+        BoardEdges.run();
+        WalkEdges.run();
+        ReckonEdges.run();
+        KindsEdges.run();
+        Said.checkThatAllIsTested();
+        Checks.end();
+    }
+}
