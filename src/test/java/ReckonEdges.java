@@ -140,24 +140,12 @@ final class ReckonEdges {
         Twins.notLet(own, "n", OthersMan::value, -1000000, -1, 6, 7);
     }
 
-    private static OthersMan nobodyWon() {
-        OthersMan x = new OthersMan();
-        for (int i = 0; i < 99; i++) x.pass();
-        return x;
-    }
-
-    private static OthersMan bWon() {
-        OthersMan x = Checks.told(ALL + "home 1 2 2;law 1 0;");
-        Checks.due("home", x.tell(7), 2);
-        return x;
-    }
-
     private static void valueWhenOver() {
         Said said = Said.by(15, "(From the POSITION NOW; those that are asked change nothing.)");
         for (int n = 0; n <= 5; n++) {
             said.due("A has won, in " + n, Twins.over().value(n), 1);
-            said.due("B has won, in " + n, bWon().value(n), -1);
-            said.due("nobody has, in " + n, nobodyWon().value(n), 0);
+            said.due("B has won, in " + n, WalkEdges.bWon().value(n), -1);
+            said.due("nobody has, in " + n, WalkEdges.nobodyWon().value(n), 0);
         }
         OthersMan x = Checks.told(MAN_1_GOES + "pit 0 0;");
         int[] due = {5, 4, 3, 2, 1};
@@ -261,8 +249,8 @@ final class ReckonEdges {
             said.due("no laws", new OthersMan().best(n), -9);
             terms.due("a pass", Checks.told(MAN_0_GOES).best(n), -9);
             terms.due("A has won", Twins.over().best(n), -9);
-            terms.due("B has won", bWon().best(n), -9);
-            terms.due("nobody has", nobodyWon().best(n), -9);
+            terms.due("B has won", WalkEdges.bWon().best(n), -9);
+            terms.due("nobody has", WalkEdges.nobodyWon().best(n), -9);
         }
         Twins.notLet(said, "n", OthersMan::best, -1, 0, -1, 6, 7);
     }
@@ -305,8 +293,8 @@ final class ReckonEdges {
         for (int d = 0; d < 8; d++) {
             int told = d;
             Twins.refused(said, "A has won, " + d, Twins::over, x -> x.refuses(told, 1), -2);
-            Twins.refused(said, "B has won, " + d, ReckonEdges::bWon, x -> x.refuses(told, 5), -2);
-            Twins.refused(said, "nobody has, " + d, ReckonEdges::nobodyWon, x -> x.refuses(told, 1), -2);
+            Twins.refused(said, "B has won, " + d, WalkEdges::bWon, x -> x.refuses(told, 5), -2);
+            Twins.refused(said, "nobody has, " + d, WalkEdges::nobodyWon, x -> x.refuses(told, 1), -2);
             Twins.refused(said, "no laws, " + d, Twins::fresh, x -> x.refuses(told, 5), -1);
         }
         Twins.refused(said, "the one refused just now", Twins::amid, x -> x.refuses(2, 1), -1);
@@ -337,7 +325,7 @@ final class ReckonEdges {
             said.due("man 0, none instead of the PIT, in " + n, passedPlain.worth(0, n), most / 2);
             said.due("man 0, behind a pass, in " + n, Checks.told(other + "0;").worth(0, n), n < 2 ? 0 : 2);
             said.due("A has won, in " + n, Twins.over().worth(1, n), 0);
-            said.due("B has won, in " + n, bWon().worth(0, n), 0);
+            said.due("B has won, in " + n, WalkEdges.bWon().worth(0, n), 0);
             said.due("no laws, in " + n, new OthersMan().worth(0, n), 0);
         }
         // By two bells A tells man 1 three times, and up is a PIT each time: a third REFUSAL would help.
@@ -440,8 +428,8 @@ final class ReckonEdges {
         for (int n = 0; n <= 3; n++) {
             said.due("no laws", new OthersMan().fairest(n), -9);
             said.due("A has won", Twins.over().fairest(n), -9);
-            said.due("B has won", bWon().fairest(n), -9);
-            said.due("nobody has, no laws", nobodyWon().fairest(n), -9);
+            said.due("B has won", WalkEdges.bWon().fairest(n), -9);
+            said.due("nobody has, no laws", WalkEdges.nobodyWon().fairest(n), -9);
         }
         OthersMan nobody = WalkEdges.shuttled("", 98);
         nobody.tell(4);
@@ -474,8 +462,8 @@ final class ReckonEdges {
         for (int n = 0; n <= 4; n++) {
             said.due("no laws", new OthersMan().even(n), 1);
             said.due("A has won", Twins.over().even(n), 0);
-            said.due("B has won", bWon().even(n), 0);
-            said.due("nobody has", nobodyWon().even(n), 1);
+            said.due("B has won", WalkEdges.bWon().even(n), 0);
+            said.due("nobody has", WalkEdges.nobodyWon().even(n), 1);
         }
         Said own = Said.by(21, "EVEN (n 0 .. 4): 1, 0. BAD.");
         Twins.notLet(own, "n", OthersMan::even, -1, -1, 5, 6);

@@ -39,8 +39,12 @@ final class WalkEdges {
         return x;
     }
 
+    static OthersMan nobodyWon() {
+        return passedOn(99);
+    }
+
     /** B has won by A's step. */
-    private static OthersMan bWon() {
+    static OthersMan bWon() {
         OthersMan x = Checks.told(ALL + "home 1 2 2;");
         Checks.due("home", x.tell(7), 2);
         return x;
@@ -67,7 +71,7 @@ final class WalkEdges {
         Twins.notLet(said, "direction", OthersMan::tell, -1, -1, 8, 9, -8);
         said.due("0 is let", Checks.told(ALL).tell(0), 0);
         said.due("7 is let", Checks.told(ALL).tell(7), 0);
-        Twins.refused(said, "8, nobody has won", () -> passedOn(99), x -> x.tell(8), -1);
+        Twins.refused(said, "8, nobody has won", WalkEdges::nobodyWon, x -> x.tell(8), -1);
     }
 
     private static void toldWhenOver() {
@@ -76,8 +80,8 @@ final class WalkEdges {
             int told = d;
             Twins.refused(said, "A has won, " + d, Twins::over, x -> x.tell(told), -2);
             Twins.refused(said, "B has won, " + d, WalkEdges::bWon, x -> x.tell(told), -2);
-            Twins.refused(said, "nobody has, " + d, () -> passedOn(99), x -> x.tell(told), -2);
-            Twins.refused(said, "nobody has, by steps, " + d, () -> ninetyNineSteps(), x -> x.tell(told), -2);
+            Twins.refused(said, "nobody has, " + d, WalkEdges::nobodyWon, x -> x.tell(told), -2);
+            Twins.refused(said, "nobody has, by steps, " + d, WalkEdges::ninetyNineSteps, x -> x.tell(told), -2);
         }
     }
 
@@ -221,13 +225,13 @@ final class WalkEdges {
             int told = d;
             Twins.refused(said, "over, " + d, Twins::over, x -> x.refuse(told), -2);
             Twins.refused(said, "B has won, " + d, WalkEdges::bWon, x -> x.refuse(told), -2);
-            Twins.refused(said, "nobody has won, " + d, () -> passedOn(99), x -> x.refuse(told), -2);
+            Twins.refused(said, "nobody has won, " + d, WalkEdges::nobodyWon, x -> x.refuse(told), -2);
             Twins.refused(said, "it may not be told, no laws, " + d, Twins::fresh, x -> x.refuse(told), -1);
         }
         Twins.refused(said, "the one refused just now", Twins::amid, x -> x.refuse(2), -1);
         Twins.refused(said, "onto a WALL, one refused just now", Twins::amid, x -> x.refuse(5), -1);
         Twins.refused(said, "it may not be told, none left", () -> Checks.told(ALL + "refuses 1 0;"), x -> x.refuse(4), -1);
-        Twins.refused(said, "not a direction, nobody has won", () -> passedOn(99), x -> x.refuse(-1), -1);
+        Twins.refused(said, "not a direction, nobody has won", WalkEdges::nobodyWon, x -> x.refuse(-1), -1);
     }
 
     private static void toldAgainLater() {
@@ -283,7 +287,7 @@ final class WalkEdges {
             x.tell(6);
             return x;
         }, OthersMan::pass, -2);
-        Twins.refused(said, "nobody has won", () -> passedOn(99), OthersMan::pass, -2);
+        Twins.refused(said, "nobody has won", WalkEdges::nobodyWon, OthersMan::pass, -2);
         Twins.refused(said, "many steps MAY be, one is barred", Twins::amid, OthersMan::pass, -2);
         Twins.refused(said, "one step MAY be", () -> Checks.told("law 1 6;"), OthersMan::pass, -2);
         Twins.refused(said, "one onto a PIT", () -> Checks.told("law 1 6;pit 2 3;"), OthersMan::pass, -2);
