@@ -49,7 +49,7 @@ final class Said {
         Checks.due(name + what, got, want);
     }
 
-    /** Each promise, and each sentence of the terms and of the promises, is to have been tested by its words. */
+    /** Each promise, and each sentence from the first line to what is not promised, is to have been tested by its words. */
     static void checkThatAllIsTested() {
         for (int p = 1; p <= PROMISES; p++) Checks.due("promise " + p + " is tested by its sentences", TESTED[p] ? 1 : 0, 1);
         if (DOCUMENT.isEmpty()) return;
@@ -60,7 +60,7 @@ final class Said {
         List<String> all = new ArrayList<>();
         StringBuilder words = new StringBuilder();
         int end = DOCUMENT.indexOf("## Not promised");
-        for (int i = DOCUMENT.indexOf("## Terms") + 8; i < end; i++) {
+        for (int i = 0; i < end; i++) {
             if (!QUOTED[i]) words.append(DOCUMENT.charAt(i));
             if (!QUOTED[i] && i + 1 < end) continue;
             String rest = withoutHeadings(words.toString());
@@ -71,8 +71,7 @@ final class Said {
     }
 
     private static String withoutHeadings(String words) {
-        return words.replaceAll("Ahead of the calls .*?(?=Ahead of|## )", "").replaceAll("## Promise \\d+: \\w+( new object)?", "")
-            .replaceAll("`[^`]*\\)`:", "").replaceAll("```(text)?", "").replaceAll("======== \\d", "")
-            .replaceAll("The constants: `NO = -1000000`:", "");
+        return words.replaceAll("# OthersMan ## What it is|## The public face|## Terms|## Promise \\d+: \\w+( new object)?", "")
+            .replaceAll("```(text|java)?|======== \\d", "");
     }
 }

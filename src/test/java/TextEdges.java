@@ -186,6 +186,7 @@ final class TextEdges {
             y.board();
             Twins.same(said, "what is not told (" + WORDS[left] + ") is as at first", x, y);
         }
+        noCellIsLeft(said);
         Said anew = Said.by(4, "(Read anew: the POSITION is as at first, IMAGES are gone; THE LOT stays; THE TRACE goes on, as "
             + "behind back().)");
         OthersMan x = Twins.amid();
@@ -206,6 +207,21 @@ final class TextEdges {
         anew.due("goes on", over.now(2), 0);
         anew.due("its image is gone", over.back(0), -2);
         anew.due("its trace goes on", over.trace(), 10101);
+    }
+
+    /** Each cell is told by two texts, so whatever rows are read into in turn have had it. */
+    private static void noCellIsLeft(Said said) {
+        for (int kind = 1; kind <= 3; kind++) {
+            StringBuilder all = new StringBuilder();
+            for (int c = 0; c < 16; c++) all.append(WORDS[kind]).append(c % 4).append(' ').append(c / 4).append(';');
+            OthersMan x = Checks.told(all.toString());
+            Checks.typed(x, all.toString());
+            said.due("each cell " + WORDS[kind] + ", again", x.board(), 16);
+            for (int read = 0; read < 3; read++) {
+                said.due("nothing is told", x.board(), 0);
+                for (int c = 0; c < 16; c++) said.due("cell " + c + " is plain, no " + WORDS[kind], x.cell(c % 4, c / 4), 0);
+            }
+        }
     }
 
     /** Read twice, and a third time up to a fault, so that none of its rows is as at first. */
